@@ -140,19 +140,11 @@ public final class ScoreboardCore {
         if (instruction.isJump()) {
             takeJump();
         } else {
-            takeInLine();
-        }
-        return true;
-    }
-
-    private void takeInLine() {
-        if (instruction.unit() == NO_UNIT) {
-            board.giveOutWithoutUnit(instruction);
-        } else {
             board.giveOut(instruction);
             Work.apply(instruction, registers, memory);
+            goOnBehind();
         }
-        goOnBehind();
+        return true;
     }
 
     private void takeJump() {
@@ -271,7 +263,7 @@ public final class ScoreboardCore {
         private final long[] words = new long[WORDS];
         private final long[] program = new long[WORDS];
 
-        static boolean holds(long address) {
+        static boolean holds(int address) {
             return address >= 0 && address < WORDS;
         }
 
@@ -627,8 +619,10 @@ public final class ScoreboardCore {
                 case UNIT_COUNT:
                     registers.set(one.i(), Long.bitCount(registers.x(one.k())));
                     break;
-                default:
+                case UNIT_ADDRESS:
                     applyAddress(one, registers, memory);
+                    break;
+                default:
                     break;
             }
         }
@@ -784,28 +778,13 @@ public final class ScoreboardCore {
             counted += last;
         }
 
-        void giveOutWithoutUnit(Instruction one) {
-            reach(earliest);
-            earliest += one.parcels();
-        }
-
         void giveOut(Instruction one) {
-            int given = givenOutAt(one);
-            int unit = unitFreeAt(one.unit(), given);
-            int readAt = waitFor(given + 1, one.needs().latestIn(registerFreeFrom), WAIT_READ);
-            int end = endsAt(one, readAt + UNIT_CYCLES[unit]);
-            one.needs().raiseIn(registerLastRead, readAt);
-            one.results().raiseIn(registerFreeFrom, end + 1);
-            unitFreeFrom[unit] = end + 1;
-            doneCounts[unit]++;
-            reach(end);
-            if (one.loads() || one.stores()) {
-                memoryLastEnd = end;
+            int given = earliest;
+            if (one.unit() != NO_UNIT) {
+                given = givenOutAt(one);
+                occupyUnit(one, given);
             }
-            if (one.loads()) {
-                registerFreeFrom[one.i()] = end + CYCLES_LOAD + 1;
-                reach(end + CYCLES_LOAD);
-            }
+            reach(given);
             earliest = given + one.parcels();
         }
 
@@ -831,6 +810,24 @@ public final class ScoreboardCore {
             }
             int withUnit = waitFor(earliest, unitFree, WAIT_UNIT);
             return waitFor(withUnit, one.results().latestIn(registerFreeFrom), WAIT_RESULT);
+        }
+
+        private void occupyUnit(Instruction one, int given) {
+            int unit = unitFreeAt(one.unit(), given);
+            int readAt = waitFor(given + 1, one.needs().latestIn(registerFreeFrom), WAIT_READ);
+            int end = endsAt(one, readAt + UNIT_CYCLES[unit]);
+            one.needs().raiseIn(registerLastRead, readAt);
+            one.results().raiseIn(registerFreeFrom, end + 1);
+            unitFreeFrom[unit] = end + 1;
+            doneCounts[unit]++;
+            reach(end);
+            if (one.loads() || one.stores()) {
+                memoryLastEnd = end;
+            }
+            if (one.loads()) {
+                registerFreeFrom[one.i()] = end + CYCLES_LOAD + 1;
+                reach(end + CYCLES_LOAD);
+            }
         }
 
         private int unitFreeAt(int unit, int cycle) {

@@ -1,6 +1,10 @@
 /** Many programs, run in pieces on the machine and on the model beside it: all answers are the same. */
 public final class BoardModelTest {
-    private static final int PROGRAMS = 1500;
+    private static final int PROGRAMS = 3000;
+    private static final int PIECES = 6;
+    /** Only these words are written, so that no object needs more than its 512 calls. */
+    private static final int LOW_WORDS = 72;
+    private static final int HIGH_WORD = 504;
     private static final int[] OPS = {1, 2, 3, 4, 5, 6, 7, 010, 011, 012, 013, 014, 015, 016, 017, 020, 021, 022, 023,
         036, 037, 043, 046, 047, 047, 047};
     private static final long[] EDGES = {0, -1, 1, -2, 1L << 59, (1L << 59) - 1, 1L << 17, (1L << 17) - 1, 511, 512};
@@ -33,8 +37,8 @@ public final class BoardModelTest {
         BoardModel model = new BoardModel();
         int fewer = 2 + below(7);
         boolean jumpsSeldom = below(2) == 0;
-        for (int address = 0; address < 512; address++) {
-            long word = below(300) == 0 ? bits() : programWord(Math.min(fewer, 8), jumpsSeldom);
+        for (int address = 0; address < 512; address = behind(address)) {
+            long word = below(300) == 0 ? bits() : programWord(fewer, jumpsSeldom);
             core.write(address, word);
             model.memory[address] = word & Program.MINUS_ZERO;
         }
@@ -43,21 +47,36 @@ public final class BoardModelTest {
             core.put(k, v);
             model.registers[k] = k == 16 ? 0 : v & (k < 8 ? Program.MINUS_ZERO : Program.SHORT_MINUS_ZERO);
         }
-        for (int piece = 0; piece < 12; piece++) {
+        for (int piece = 0; piece < PIECES; piece++) {
             int n = below(3) == 0 ? 1 + below(3) : below(120);
             String what = name + ", piece " + piece + ": ";
             Check.due(what + "run(" + n + ")", core.run(n), model.run(n));
             compareState(what, core, model);
             if (model.stop != 3 || below(6) == 0) {
-                int word = below(512);
+                int word = below(10) == 0 ? HIGH_WORD + below(8) : below(LOW_WORDS);
                 core.start(word);
                 model.word = word;
                 model.parcel = 0;
                 model.stop = 3;
             }
         }
-        for (int address = 0; address < 512; address++) {
+        for (int address = 0; address < 512; address = behind(address)) {
             Check.dueOctal(name + ": read(" + address + ")", core.read(address), model.memory[address]);
+        }
+    }
+
+    private static int behind(int address) {
+        return address + 1 == LOW_WORDS ? HIGH_WORD : address + 1;
+    }
+
+    private static int constant() {
+        switch (below(8)) {
+            case 0:
+                return below(1 << 18);
+            case 1:
+                return HIGH_WORD + below(12);
+            default:
+                return below(LOW_WORDS);
         }
     }
 
@@ -95,7 +114,7 @@ public final class BoardModelTest {
             word = word << 15 | bits;
             parcel++;
             if (two && parcel < 4) {
-                int constant = below(8) == 0 ? below(1 << 18) : below(10) == 0 ? 500 + below(20) : below(512);
+                int constant = constant();
                 word = (word & ~7L | constant >> 15) << 15 | constant & 077777;
                 parcel++;
             }
