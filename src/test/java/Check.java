@@ -36,6 +36,14 @@ final class Check {
         }
     }
 
+    static void dueNoThrow(String what, Call call) {
+        try {
+            call.make();
+        } catch (RuntimeException e) {
+            WRONG.add(what + " threw " + e.getClass().getSimpleName() + ", due is that it does not");
+        }
+    }
+
     static void end() {
         for (String line : WRONG) {
             System.out.println(line);
